@@ -233,6 +233,8 @@ public final class FallTest {
         Due.is("the second by 100", z.gain(1, 100), 0);
         Due.is("the greatest is 0", z.most(0, 1000, 50, 0), 0);
         Due.is("first word that loses nothing", z.most(0, 1000, 50, 1), 100);
+        Due.is("w itself is a word", z.most(0, 100, 100, 1), 100);
+        Due.is("no word beyond w", z.most(0, 99, 100, 1), 0);
     }
 
     private static void wrongWords() {

@@ -20,6 +20,8 @@ public final class PackingsTest {
         reasons();
         spares();
         longSearchesEnd();
+        shutFromBothSides();
+        reasonOfTen();
         Due.end();
     }
 
@@ -297,5 +299,33 @@ public final class PackingsTest {
         y.bar(9, 63);
         Due.is("the last one is barred", y.packing(1023, 0), AirClock.NONE);
         Due.is("the last one is the reason", y.reason(1023), 512);
+    }
+
+    private static void shutFromBothSides() {
+        AirClock x = withMasts(3);
+        x.channels(6);
+        x.pair(0, 2, 2);
+        x.pair(1, 2, 2);
+        x.bar(0, 63 - 2);
+        x.bar(1, 63 - 16);
+        Due.is("1 and 4 shut all six", x.packing(7, 2), AirClock.NONE);
+        Due.is("1 and 4 shut all six: reason", x.reason(7), 7);
+        x.bar(1, 63 - 32);
+        Due.is("1 and 5 leave one", x.packing(7, 2), 3);
+    }
+
+    /** A chain of ten on two channels whose ends are both held on channel 0. */
+    private static void reasonOfTen() {
+        AirClock x = withMasts(10);
+        x.channels(2);
+        for (int mast = 0; mast < 9; mast++) {
+            x.pair(mast, mast + 1, 1);
+        }
+        x.bar(0, 2);
+        x.bar(9, 2);
+        Due.is("all ten are the reason", x.reason(1023), 1023);
+        Due.is("nine of them fit", x.spare(511), 0);
+        x.bar(9, 1);
+        Due.is("the other end is on channel 1", x.packing(1023, 9), 1);
     }
 }
