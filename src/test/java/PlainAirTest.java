@@ -2,7 +2,7 @@ import java.util.Random;
 
 /** Random runs of calls, each answer held against the plain form of the document. */
 public final class PlainAirTest {
-    private static final int RUNS = 400;
+    private static final int RUNS = 1200;
     private static final int CALLS = 300;
     private static final int[] ODD = {-1, -2, 64, 1023, 1024, 2000, 2001, Integer.MAX_VALUE, Integer.MIN_VALUE};
 
@@ -13,7 +13,10 @@ public final class PlainAirTest {
 
     private PlainAirTest(long seed) {
         random = new Random(seed);
-        wish = 1 + random.nextInt(9);
+        wish = 1 + random.nextInt(10);
+        if (seed % 2 == 0) {
+            beginCrowded();
+        }
     }
 
     public static void main(String[] args) {
@@ -25,6 +28,35 @@ public final class PlainAirTest {
             Due.is("seed " + seed + " digest", run.x.digest(), run.y.digest());
         }
         Due.end();
+    }
+
+    /** Few runs come to many masts, stations and sentences by themselves, so half of them begin there. */
+    private void beginCrowded() {
+        int often = 1 + random.nextInt(3);
+        for (int a = 0; a < wish; a++) {
+            Due.is("mast()", x.mast(), a);
+            y.masts++;
+            for (int b = 0; b < a; b++) {
+                y.pair[a][b] = random.nextInt(4) < often ? 1 + random.nextInt(2) : 0;
+                y.pair[b][a] = y.pair[a][b];
+                Due.is("pair", x.pair(a, b, y.pair[a][b]), 0);
+            }
+            if (random.nextInt(4) != 0) {
+                y.old[a] = true;
+                y.value[a] = random.nextInt(1001);
+                y.weight[a] = 1 + random.nextInt(10);
+                Due.is("old", x.old(a, y.value[a], y.weight[a]), 1);
+            }
+        }
+        for (int house = 0; house < 6; house++) {
+            Due.is("house()", x.house(), house);
+            y.houses++;
+        }
+        for (int many = 0; many < 12; many++) {
+            int[] asked = {random.nextInt(6), 1 + random.nextInt(63), 1 + random.nextInt(30)};
+            Due.is("ask", x.ask(asked[0], asked[1], asked[2]), many);
+            y.sentences.add(asked);
+        }
     }
 
     private int of(int least, int most) {
